@@ -133,7 +133,9 @@ public final class ChangesTest {
         due("shoes", x.shoes(5, 1), 1);
         due("shoes", x.walker(5, 0), 1);
         due("of another one", x.walker(4, 0), 0);
-        due("changes", x.count(15), 3);
+        due("no shoes", x.shoes(5, 0), 1);
+        due("no shoes", x.walker(5, 0), 0);
+        due("changes", x.count(15), 4);
     }
 
     private static void promise06Permit() {
@@ -173,7 +175,14 @@ public final class ChangesTest {
         due("holds anew", x.holds(0, 0), 4);
         due("permit in place of a longer one", x.permit(0, 1), 2);
         due("holds less", x.holds(0, 1), 4);
-        for (int day = 0; day < 4; day++) x.pass(11);
+        for (int day = 0; day < 3; day++) x.pass(11);
+        due("the last day", x.holds(0, 0), 1);
+        due("a permit of one day", x.walker(0, 4), 3);
+        due("a permit of one day", x.puddle(1, 6), 1);
+        due("a permit of one day", x.count(11), 2);
+        x.set(3, 1);
+        due("a permit of one day", x.permit(0, 11), 3);
+        x.pass(11);
         due("over", x.holds(0, 0), NONE);
         due("permits", x.count(11), 0);
         due("over for long", x.pass(11), 0);

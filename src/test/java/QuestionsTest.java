@@ -154,7 +154,9 @@ public final class QuestionsTest {
         x.pass(11);
         x.pass(11);
         due("the last day", x.holds(5, 11), 1);
+        due("permits on the last day", x.puddle(11, 6), 32);
         x.pass(11);
+        due("no permits", x.puddle(11, 6), 0);
         due("over", x.holds(5, 11), NONE);
     }
 
@@ -246,6 +248,9 @@ public final class QuestionsTest {
         due("one", x.untilDry(0), 1);
         x.brim(1, 2);
         due("just one", x.untilDry(1), 1);
+        x.set(1, 1);
+        due("59 by 1", x.untilDry(11), 59);
+        x.set(1, 2);
         x.brim(2, 3);
         due("two", x.untilDry(2), 2);
         due("59", x.untilDry(11), 30);
@@ -304,6 +309,15 @@ public final class QuestionsTest {
         x.drain(7);
         x.pass(10);
         due("dry ice", x.leastShoes(1), 2);
+        for (int end = 0; end < 12; end += 11) {
+            PuddleMinistries y = new PuddleMinistries();
+            y.brim(end, 35);
+            for (int hour = 0; hour < 4; hour++) y.pass(9);
+            for (int puddle = 0; puddle < 12; puddle++) {
+                if (puddle != end) y.drain(puddle);
+            }
+            due("one deep puddle at an end", y.leastShoes(5), 3);
+        }
     }
 
     private static void promise19LongestWalk() {
