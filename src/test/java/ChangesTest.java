@@ -1,37 +1,17 @@
 /** Promises 1 to 10: a new object, and the changes. */
 public final class ChangesTest {
-    private static final int NO_SUCH = -1, BAD_VALUE = -2, BAD_TEXT = -3, TOO_MANY = -4, NOT_POSSIBLE = -5, NONE = -6;
+    private static final int NO_SUCH = -1, BAD_VALUE = -2, BAD_TEXT = -3, NOT_POSSIBLE = -5, NONE = -6;
     private static final int MAX = Integer.MAX_VALUE, MIN = Integer.MIN_VALUE;
 
-    public static void main(String[] args) {
-        promise01NewObject();
-        promise02Set();
-        promise03Brim();
-        promise03BrimOfFrozenPuddle();
-        promise04Drain();
-        promise05Shoes();
-        promise06Permit();
-        promise06PermitDays();
-        promise07Walk();
-        promise07WalkIsStopped();
-        promise08Pay();
-        promise09Rain();
-        promise09RainAndFrost();
-        promise09Sun();
-        promise09Frost();
-        promise09DayEnds();
-        promise09Errors();
-        promise10Read();
-        promise10ReadErrors();
-        promises09And10TooManyDays();
-        Checks.finish("ChangesTest");
+    public static void main(String[] args) throws Exception {
+        Checks.run(ChangesTest.class);
     }
 
     private static void due(String call, long got, long want) {
         Checks.due(call, got, want);
     }
 
-    private static void promise01NewObject() {
+    static void promise01NewObject() {
         PuddleMinistries x = new PuddleMinistries();
         int[] counts = {3, 2, 15, 5, 0, 0, 0, 0, 0, 0, 0, 0, 0, 0, 0, 0};
         for (int what = 0; what < 16; what++) due("new: count " + what, x.count(what), counts[what]);
@@ -49,7 +29,7 @@ public final class ChangesTest {
         due("new: fault", x.fault(), 0);
     }
 
-    private static void promise02Set() {
+    static void promise02Set() {
         PuddleMinistries x = new PuddleMinistries();
         int[] first = {3, 2, 15, 5}, least = {0, 0, 1, 1}, most = {20, 20, 99, 30};
         for (int setting = 0; setting < 4; setting++) {
@@ -67,7 +47,7 @@ public final class ChangesTest {
         due("changes", x.count(15), 6);
     }
 
-    private static void promise03Brim() {
+    static void promise03Brim() {
         PuddleMinistries x = new PuddleMinistries();
         for (int puddle : new int[] {-1, 12, MAX, MIN}) due("brim of " + puddle, x.brim(puddle, 0), NO_SUCH);
         for (int brim : new int[] {0, 61, -1, MAX, MIN}) due("brim " + brim, x.brim(3, brim), BAD_VALUE);
@@ -90,7 +70,7 @@ public final class ChangesTest {
         due("changes", x.count(15), 6);
     }
 
-    private static void promise03BrimOfFrozenPuddle() {
+    static void promise03BrimOfFrozenPuddle() {
         PuddleMinistries x = new PuddleMinistries();
         x.pass(9);
         x.pass(10);
@@ -100,7 +80,7 @@ public final class ChangesTest {
         due("drained", x.count(8), 6);
     }
 
-    private static void promise04Drain() {
+    static void promise04Drain() {
         PuddleMinistries x = new PuddleMinistries();
         for (int puddle : new int[] {-1, 12, MAX, MIN}) due("drain of " + puddle, x.drain(puddle), NO_SUCH);
         due("drain of a dry one", x.drain(11), 0);
@@ -123,7 +103,7 @@ public final class ChangesTest {
         due("no error if there is no puddle but ducks", x.drain(12), NO_SUCH);
     }
 
-    private static void promise05Shoes() {
+    static void promise05Shoes() {
         PuddleMinistries x = new PuddleMinistries();
         for (int walker : new int[] {-1, 6, MAX, MIN}) due("shoes of " + walker, x.shoes(walker, 9), NO_SUCH);
         for (int shoes : new int[] {-1, 4, MAX, MIN}) due("shoes " + shoes, x.shoes(5, shoes), BAD_VALUE);
@@ -138,7 +118,7 @@ public final class ChangesTest {
         due("changes", x.count(15), 4);
     }
 
-    private static void promise06Permit() {
+    static void promise06Permit() {
         PuddleMinistries x = new PuddleMinistries();
         for (int walker : new int[] {-1, 6, MAX, MIN}) due("permit for " + walker, x.permit(walker, 0), NO_SUCH);
         for (int puddle : new int[] {-1, 12, MAX, MIN}) due("permit for " + puddle, x.permit(0, puddle), NO_SUCH);
@@ -160,7 +140,7 @@ public final class ChangesTest {
         due("permit without ducks", x.permit(1, 3), 1);
     }
 
-    private static void promise06PermitDays() {
+    static void promise06PermitDays() {
         PuddleMinistries x = new PuddleMinistries();
         x.set(3, 2);
         x.permit(0, 0);
@@ -189,7 +169,7 @@ public final class ChangesTest {
         due("over still", x.holds(0, 0), NONE);
     }
 
-    private static void promise07Walk() {
+    static void promise07Walk() {
         PuddleMinistries x = new PuddleMinistries();
         for (int walker : new int[] {-1, 6, MAX, MIN}) due("walk of " + walker, x.walk(walker, 0, 0), NO_SUCH);
         for (int puddle : new int[] {-1, 12, MAX, MIN}) {
@@ -217,7 +197,7 @@ public final class ChangesTest {
         due("ice costs nothing", x.walker(2, 1), 18);
     }
 
-    private static void promise07WalkIsStopped() {
+    static void promise07WalkIsStopped() {
         PuddleMinistries x = new PuddleMinistries();
         x.brim(6, 4);
         x.brim(7, 9);
@@ -245,7 +225,7 @@ public final class ChangesTest {
         due("stopped by ducks", x.walk(0, 11, 0), 1);
     }
 
-    private static void promise08Pay() {
+    static void promise08Pay() {
         PuddleMinistries x = new PuddleMinistries();
         for (int walker : new int[] {-1, 6, MAX, MIN}) due("pay of " + walker, x.pay(walker), NO_SUCH);
         due("no change yet", x.count(15), 0);
@@ -268,7 +248,7 @@ public final class ChangesTest {
         due("paid by all", x.count(13), 18);
     }
 
-    private static void promise09Rain() {
+    static void promise09Rain() {
         PuddleMinistries x = new PuddleMinistries();
         due("rain", x.pass(1), 12);
         due("rain", x.pass(9), 120);
@@ -288,7 +268,7 @@ public final class ChangesTest {
         due("fell", x.count(6), 252);
     }
 
-    private static void promise09RainAndFrost() {
+    static void promise09RainAndFrost() {
         PuddleMinistries x = new PuddleMinistries();
         x.brim(1, 60);
         x.brim(4, 60);
@@ -312,7 +292,7 @@ public final class ChangesTest {
         due("frozen still", x.count(9), 4 | 64);
     }
 
-    private static void promise09Sun() {
+    static void promise09Sun() {
         PuddleMinistries x = new PuddleMinistries();
         x.pass(5);
         due("sun", x.pass(0), 36);
@@ -340,7 +320,7 @@ public final class ChangesTest {
         due("and not fallen", x.count(6), 168);
     }
 
-    private static void promise09Frost() {
+    static void promise09Frost() {
         PuddleMinistries x = new PuddleMinistries();
         for (int hour = 0; hour < 3; hour++) x.pass(9);
         x.brim(4, 19);
@@ -356,7 +336,7 @@ public final class ChangesTest {
         due("frozen", x.count(9), 16 | 32 | 128);
     }
 
-    private static void promise09DayEnds() {
+    static void promise09DayEnds() {
         PuddleMinistries x = new PuddleMinistries();
         x.brim(0, 14);
         x.pass(9);
@@ -389,7 +369,7 @@ public final class ChangesTest {
         due("water stays", x.count(8) + x.count(7) + x.count(5), x.count(6));
     }
 
-    private static void promise09Errors() {
+    static void promise09Errors() {
         PuddleMinistries x = new PuddleMinistries();
         for (int weather : new int[] {-1, 12, MAX, MIN}) due("pass " + weather, x.pass(weather), BAD_VALUE);
         due("no change", x.count(15), 0);
@@ -397,7 +377,7 @@ public final class ChangesTest {
         due("changes", x.count(15), 6);
     }
 
-    private static void promise10Read() {
+    static void promise10Read() {
         PuddleMinistries x = new PuddleMinistries();
         due("read", Checks.readAll(x, "r9sr1dfr5"), 96);
         due("one change", x.count(15), 1);
@@ -422,7 +402,7 @@ public final class ChangesTest {
         due("the pad stays empty", x.count(14), 0);
     }
 
-    private static void promise10ReadErrors() {
+    static void promise10ReadErrors() {
         PuddleMinistries x = new PuddleMinistries();
         for (String text : new String[] {"r", "r9r", "x", "r0", "9", "r99", "sdf1", "rs", "R9", "r9S"}) {
             due("read of " + text, Checks.readAll(x, text), BAD_TEXT);
@@ -431,26 +411,5 @@ public final class ChangesTest {
         due("no change", x.count(15), 0);
         due("no water", x.count(5), 0);
         due("no day", x.count(4), 0);
-    }
-
-    /** So many days take more than 512 calls: what is promised is tested as far as the program goes on after them. */
-    private static void promises09And10TooManyDays() {
-        PuddleMinistries x = new PuddleMinistries();
-        StringBuilder days = new StringBuilder();
-        for (int day = 0; day < 60; day++) days.append('d');
-        for (int text = 0; text < 166; text++) Checks.readAll(x, days.toString());
-        due("days", x.count(4), 9960);
-        due("read too many", Checks.readAll(x, days.substring(0, 40)), TOO_MANY);
-        due("the pad stays", x.wipe(), 40);
-        due("read just enough", Checks.readAll(x, days.substring(0, 38)), 0);
-        due("days", x.count(4), 9998);
-        due("pass the last day", x.pass(11), 0);
-        due("days", x.count(4), 9999);
-        due("pass one more", x.pass(11), TOO_MANY);
-        due("days", x.count(4), 9999);
-        due("other weather goes on", x.pass(1), 12);
-        due("bad value goes first", x.pass(12), BAD_VALUE);
-        due("read other weather", Checks.readAll(x, "r1f"), 24);
-        due("bad text goes first", Checks.readAll(x, "dr"), BAD_TEXT);
     }
 }

@@ -5,19 +5,8 @@ public final class QuestionsTest {
     private static final int[] NO_WALKERS = {-1, 6, MAX, MIN};
     private static final int[] NO_PUDDLES = {-1, 12, MAX, MIN};
 
-    public static void main(String[] args) {
-        promise11Puddle();
-        promise12Walker();
-        promise13WhyDepthAndShoes();
-        promise13WhyIceAndDucks();
-        promise14Holds();
-        promise15Count();
-        promise16Cost();
-        promise17UntilDry();
-        promise18LeastShoes();
-        promise19LongestWalk();
-        promises11To19ChangeNothing();
-        Checks.finish("QuestionsTest");
+    public static void main(String[] args) throws Exception {
+        Checks.run(QuestionsTest.class);
     }
 
     private static void due(String call, long got, long want) {
@@ -33,7 +22,7 @@ public final class QuestionsTest {
         return x;
     }
 
-    private static void promise11Puddle() {
+    static void promise11Puddle() {
         PuddleMinistries x = streetOfDepths();
         for (int puddle : NO_PUDDLES) due("puddle " + puddle, x.puddle(puddle, 9), NO_SUCH);
         for (int what : new int[] {-1, 7, MAX, MIN}) due("what " + what, x.puddle(0, what), BAD_VALUE);
@@ -62,7 +51,7 @@ public final class QuestionsTest {
         due("not crossed", x.puddle(3, 5), 0);
     }
 
-    private static void promise12Walker() {
+    static void promise12Walker() {
         PuddleMinistries x = streetOfDepths();
         for (int walker : NO_WALKERS) due("walker " + walker, x.walker(walker, 9), NO_SUCH);
         for (int what : new int[] {-1, 6, MAX, MIN}) due("what " + what, x.walker(0, what), BAD_VALUE);
@@ -89,7 +78,7 @@ public final class QuestionsTest {
         due("may not cross ducks", x.walker(1, 5), 1 | 4);
     }
 
-    private static void promise13WhyDepthAndShoes() {
+    static void promise13WhyDepthAndShoes() {
         PuddleMinistries x = streetOfDepths();
         for (int walker : NO_WALKERS) due("why " + walker, x.why(walker, 0), NO_SUCH);
         for (int puddle : NO_PUDDLES) due("why " + puddle, x.why(0, puddle), NO_SUCH);
@@ -105,7 +94,7 @@ public final class QuestionsTest {
         due("for another one", x.why(2, 10), 2);
     }
 
-    private static void promise13WhyIceAndDucks() {
+    static void promise13WhyIceAndDucks() {
         PuddleMinistries x = streetOfDepths();
         x.shoes(2, 3);
         x.permit(2, 3);
@@ -134,7 +123,7 @@ public final class QuestionsTest {
         due("ice without ducks, with a permit", x.why(2, 4), 0);
     }
 
-    private static void promise14Holds() {
+    static void promise14Holds() {
         PuddleMinistries x = new PuddleMinistries();
         for (int walker : NO_WALKERS) due("holds " + walker, x.holds(walker, 0), NO_SUCH);
         for (int puddle : NO_PUDDLES) due("holds " + puddle, x.holds(0, puddle), NO_SUCH);
@@ -160,7 +149,7 @@ public final class QuestionsTest {
         due("over", x.holds(5, 11), NONE);
     }
 
-    private static void promise15Count() {
+    static void promise15Count() {
         PuddleMinistries x = new PuddleMinistries();
         for (int what : new int[] {-1, 16, MAX, MIN}) due("count " + what, x.count(what), BAD_VALUE);
         for (int setting = 0; setting < 4; setting++) {
@@ -204,7 +193,7 @@ public final class QuestionsTest {
         due("changes", x.count(15), 5);
     }
 
-    private static void promise16Cost() {
+    static void promise16Cost() {
         PuddleMinistries x = streetOfDepths();
         for (int walker : NO_WALKERS) due("cost " + walker, x.cost(walker, 0, 0, 9), NO_SUCH);
         for (int puddle : NO_PUDDLES) {
@@ -241,7 +230,7 @@ public final class QuestionsTest {
         due("ducks, by the block", x.cost(1, 4, 11, 1), 0);
     }
 
-    private static void promise17UntilDry() {
+    static void promise17UntilDry() {
         PuddleMinistries x = streetOfDepths();
         for (int puddle : NO_PUDDLES) due("untilDry " + puddle, x.untilDry(puddle), NO_SUCH);
         x.brim(0, 1);
@@ -277,7 +266,7 @@ public final class QuestionsTest {
         due("now", x.puddle(3, 1), 0);
     }
 
-    private static void promise18LeastShoes() {
+    static void promise18LeastShoes() {
         PuddleMinistries x = new PuddleMinistries();
         for (int walker : NO_WALKERS) due("leastShoes " + walker, x.leastShoes(walker), NO_SUCH);
         x.shoes(0, 3);
@@ -320,7 +309,7 @@ public final class QuestionsTest {
         }
     }
 
-    private static void promise19LongestWalk() {
+    static void promise19LongestWalk() {
         PuddleMinistries x = new PuddleMinistries();
         for (int walker : NO_WALKERS) due("longestWalk " + walker, x.longestWalk(walker, 9), NO_SUCH);
         for (int what : new int[] {-1, 2, MAX, MIN}) due("what " + what, x.longestWalk(0, what), BAD_VALUE);
@@ -355,7 +344,7 @@ public final class QuestionsTest {
         due("longestWalk 1", x.longestWalk(0, 1), first);
     }
 
-    private static void promises11To19ChangeNothing() {
+    static void promises11To19ChangeNothing() {
         PuddleMinistries x = streetOfDepths();
         x.permit(0, 4);
         String before = ModelTest.allOf(x);

@@ -2,21 +2,15 @@
 public final class TextsTest {
     private static final int BAD_VALUE = -2, TOO_MANY = -4, NONE = -6;
 
-    public static void main(String[] args) {
-        promise20Put();
-        promise20PutErrors();
-        promise20PutTooMany();
-        promise21Wipe();
-        promise22Fault();
-        promise22FaultOfEachSign();
-        Checks.finish("TextsTest");
+    public static void main(String[] args) throws Exception {
+        Checks.run(TextsTest.class);
     }
 
     private static void due(String call, long got, long want) {
         Checks.due(call, got, want);
     }
 
-    private static void promise20Put() {
+    static void promise20Put() {
         PuddleMinistries x = new PuddleMinistries();
         due("put 1", x.put('r'), 1);
         due("put 2", x.put(Checks.packed("7s")), 3);
@@ -33,7 +27,7 @@ public final class TextsTest {
         }
     }
 
-    private static void promise20PutErrors() {
+    static void promise20PutErrors() {
         PuddleMinistries x = new PuddleMinistries();
         long[] wrong = {0, 32, 127, 128, 255, 's' << 8, ' ' << 8 | 's', 's' << 8 | ' ', 127 << 8 | 's', 200 << 8 | 's',
             1 << 16 | 's', 's' << 16 | 's', 1L << 63 | 's', 1L << 32 | 's', Long.MIN_VALUE, Long.MAX_VALUE, -1,
@@ -44,7 +38,7 @@ public final class TextsTest {
         due("put of '!' seven times behind '~'", x.put(0x7E21212121212121L), 8);
     }
 
-    private static void promise20PutTooMany() {
+    static void promise20PutTooMany() {
         PuddleMinistries x = new PuddleMinistries();
         for (int put = 1; put <= 7; put++) due("put", x.put(Checks.packed("ssssssss")), 8 * put);
         due("put above 60", x.put(Checks.packed("sssss")), TOO_MANY);
@@ -58,7 +52,7 @@ public final class TextsTest {
         due("wipe", x.wipe(), 60);
     }
 
-    private static void promise21Wipe() {
+    static void promise21Wipe() {
         PuddleMinistries x = new PuddleMinistries();
         due("wipe of an empty pad", x.wipe(), 0);
         x.put(Checks.packed("xyz"));
@@ -72,7 +66,7 @@ public final class TextsTest {
         due("days", x.count(4), 1);
     }
 
-    private static void promise22Fault() {
+    static void promise22Fault() {
         String[] texts = {"s", "f", "d", "r1", "r9", "sfdr5r6", "r", "r0", "r:", "rr", "rs", "1", "r11", "s1", "sr", "x",
             "r9r9r", "r9r9x", "sd0", "S", "r1R", "sx!", "rxx"};
         int[] faults = {NONE, NONE, NONE, NONE, NONE, NONE, 1, 1, 1, 1, 1, 0, 2, 1, 2, 0, 5, 4, 2, 0, 2, 1, 1};
@@ -96,9 +90,9 @@ public final class TextsTest {
         due("read", x.read(), -3);
     }
 
-    private static void promise22FaultOfEachSign() {
-        PuddleMinistries x = new PuddleMinistries();
+    static void promise22FaultOfEachSign() {
         for (char sign = 33; sign < 127; sign++) {
+            PuddleMinistries x = new PuddleMinistries();
             boolean hour = sign == 's' || sign == 'f' || sign == 'd', amount = sign >= '1' && sign <= '9';
             x.put(sign);
             due("fault of " + sign, x.fault(), hour ? NONE : sign == 'r' ? 1 : 0);

@@ -3,23 +3,15 @@ public final class UndoTest {
     private static final int BAD_VALUE = -2, NOT_POSSIBLE = -5;
     private static final int MAX = Integer.MAX_VALUE, MIN = Integer.MIN_VALUE;
 
-    public static void main(String[] args) {
-        promise23Undo();
-        promise23UndoOfEachChange();
-        promise23HistoryIsBounded();
-        promise23PadAndSlotsStay();
-        promise23ErrorsAreNoChanges();
-        promise24Save();
-        promise25Restore();
-        promise25RestoreEverything();
-        Checks.finish("UndoTest");
+    public static void main(String[] args) throws Exception {
+        Checks.run(UndoTest.class);
     }
 
     private static void due(String call, long got, long want) {
         Checks.due(call, got, want);
     }
 
-    private static void promise23Undo() {
+    static void promise23Undo() {
         PuddleMinistries x = new PuddleMinistries();
         due("undo of nothing", x.undo(), NOT_POSSIBLE);
         x.set(0, 9);
@@ -56,7 +48,7 @@ public final class UndoTest {
         return x;
     }
 
-    private static void promise23UndoOfEachChange() {
+    static void promise23UndoOfEachChange() {
         for (int change = 0; change < 21; change++) {
             PuddleMinistries x = usedStreet();
             String before = ModelTest.stateOf(x);
@@ -84,7 +76,7 @@ public final class UndoTest {
         }
     }
 
-    private static void promise23HistoryIsBounded() {
+    static void promise23HistoryIsBounded() {
         PuddleMinistries x = new PuddleMinistries();
         for (int brim = 1; brim <= 10; brim++) {
             x.brim(0, brim);
@@ -104,7 +96,7 @@ public final class UndoTest {
         due("brim", x.puddle(0, 0), 39);
     }
 
-    private static void promise23PadAndSlotsStay() {
+    static void promise23PadAndSlotsStay() {
         PuddleMinistries x = new PuddleMinistries();
         x.pass(11);
         x.save(1);
@@ -123,7 +115,7 @@ public final class UndoTest {
         due("days", x.count(4), 0);
     }
 
-    private static void promise23ErrorsAreNoChanges() {
+    static void promise23ErrorsAreNoChanges() {
         PuddleMinistries x = usedStreet();
         x.pass(0);
         x.set(2, 14);
@@ -151,7 +143,7 @@ public final class UndoTest {
         Checks.due("errors change nothing", before.equals(ModelTest.allOf(x)));
     }
 
-    private static void promise24Save() {
+    static void promise24Save() {
         PuddleMinistries x = new PuddleMinistries();
         for (int slot : new int[] {-1, 2, MAX, MIN}) due("save " + slot, x.save(slot), BAD_VALUE);
         due("save", x.save(0), 0);
@@ -168,7 +160,7 @@ public final class UndoTest {
         due("the slot keeps what was saved", x.restore(0), 3);
     }
 
-    private static void promise25Restore() {
+    static void promise25Restore() {
         PuddleMinistries x = new PuddleMinistries();
         for (int slot : new int[] {-1, 2, MAX, MIN}) due("restore " + slot, x.restore(slot), BAD_VALUE);
         due("restore of nothing", x.restore(0), NOT_POSSIBLE);
@@ -189,15 +181,16 @@ public final class UndoTest {
         due("days", x.count(4), 2);
     }
 
-    private static void promise25RestoreEverything() {
+    static void promise25RestoreEverything() {
+        String saved = ModelTest.stateOf(usedStreet());
         PuddleMinistries x = usedStreet();
         x.save(1);
-        String saved = ModelTest.stateOf(x);
         for (int change = 0; change < 21; change++) change(x, change);
-        Checks.due("it is another state", !saved.equals(ModelTest.stateOf(x)));
+        due("it is another day", x.count(4), 1);
         x.restore(1);
         Checks.due("all is restored", saved.equals(ModelTest.stateOf(x)));
         for (int change = 20; change >= 0; change--) change(x, change);
+        due("it is another day", x.count(4), 2);
         x.restore(1);
         Checks.due("all is restored again", saved.equals(ModelTest.stateOf(x)));
     }
