@@ -8,6 +8,8 @@ import java.nio.file.Path;
 import java.util.Arrays;
 import java.util.Set;
 import java.util.TreeSet;
+import java.util.regex.Matcher;
+import java.util.regex.Pattern;
 
 /** The face of the class, and the rules of ../shared/LANGUAGE.md that can be seen from outside the program. */
 public final class LanguageTest {
@@ -19,6 +21,7 @@ public final class LanguageTest {
         "int fault()", "int undo()", "int save(int)", "int restore(int)"};
     private static final String[] CONSTANTS = {"NO_SUCH", "BAD_VALUE", "BAD_TEXT", "TOO_MANY", "NOT_POSSIBLE", "NONE",
         "DUTY", "SUN", "DUCKS", "KEEPS"};
+    private static final Set<String> LIBRARY = Set.of("Math.min", "Math.max", "Math.abs", "Integer.bitCount");
     private static final String[] FORBIDDEN = {"throw", "throws", "try", "catch", "synchronized", "assert", "import",
         "package", "protected", "Exception", "hashCode", "toString"};
 
@@ -29,6 +32,9 @@ public final class LanguageTest {
         constants(program);
         constructors(program);
         classesInside(program);
+        parameters(program);
+        library(program);
+        lengths();
         words();
         Checks.finish("LanguageTest");
     }
@@ -85,9 +91,45 @@ public final class LanguageTest {
         }
     }
 
-    private static void words() throws Exception {
+    private static String code() throws Exception {
         String source = Files.readString(Path.of("src/main/java/PuddleMinistries.java"), StandardCharsets.US_ASCII);
-        String code = source.replaceAll("(?s)/\\*.*?\\*/|//[^\n]*", " ");
+        return source.replaceAll("(?s)/\\*.*?\\*/|//[^\n]*", " ");
+    }
+
+    private static void parameters(Class<?> program) {
+        for (Class<?> inside : program.getDeclaredClasses()) {
+            for (Method method : inside.getDeclaredMethods()) Checks.due(method + " has at most seven", method.getParameterCount() <= 7);
+        }
+        for (Method method : program.getDeclaredMethods()) Checks.due(method + " has at most seven", method.getParameterCount() <= 7);
+    }
+
+    /** What the program takes from outside: what stands in rule 4, and of that what it has needed so far. */
+    private static void library(Class<?> program) throws Exception {
+        Set<String> inside = new TreeSet<>();
+        for (Class<?> own : program.getDeclaredClasses()) inside.add(own.getSimpleName());
+        Matcher called = Pattern.compile("\\b([A-Z]\\w*[a-z]\\w*)\\.(\\w+)\\(").matcher(code());
+        while (called.find()) {
+            Checks.due("may call " + called.group(), inside.contains(called.group(1)) || LIBRARY.contains(called.group(1) + "." + called.group(2)));
+        }
+        Matcher made = Pattern.compile("\\bnew (\\w+)").matcher(code());
+        Set<String> arrays = Set.of("int", "char", "boolean");
+        while (made.find()) Checks.due("may make " + made.group(), inside.contains(made.group(1)) || arrays.contains(made.group(1)));
+    }
+
+    /** A method stands between a line that opens it and the first brace behind it that is as far from the margin. */
+    private static void lengths() throws Exception {
+        String[] lines = code().split("\n");
+        for (int i = 0; i < lines.length; i++) {
+            if (!lines[i].matches(" {4,8}[A-Za-z].*\\) \\{")) continue;
+            String end = lines[i].replaceAll("\\S.*", "") + "}";
+            int length = 1;
+            while (i + length < lines.length && !lines[i + length].equals(end)) length++;
+            Checks.due("at most sixty lines: " + lines[i].strip(), length < 60);
+        }
+    }
+
+    private static void words() throws Exception {
+        String code = code();
         Set<String> words = new TreeSet<>(Arrays.asList(code.split("[^A-Za-z0-9_]+")));
         for (String word : FORBIDDEN) Checks.due("without the word " + word, !words.contains(word));
         for (String sign : new String[] {"->", "::", "Math.addExact", "System.out", "@"}) {
